@@ -1620,7 +1620,7 @@ public final class PanSlices {
             }
             tryAll(depth);
             for (int side = 0; side < sides; side++) {
-                if (bestEnds <= leastEnds || isHopeless(depth)) {
+                if (bestEnds <= leastEnds || ends >= bestEnds || isHopeless(depth)) {
                     return;
                 }
                 if (begins[side] == NONE && !hasLesserTwin(side) && !couldChange(depth, side)) {
@@ -1635,10 +1635,23 @@ public final class PanSlices {
             }
         }
 
+        /** Only the side set last can move where another would begin, and never to an earlier minute. */
         private void tryAll(int depth) {
+            int row = depth * SIDES_HERE;
             for (int side = 0; side < sides; side++) {
-                tried[depth * SIDES_HERE + side] = begins[side] == NONE ? earliest(side) : NONE;
+                if (begins[side] != NONE) {
+                    tried[row + side] = NONE;
+                } else if (depth == 0) {
+                    tried[row + side] = 0;
+                } else {
+                    int begin = tried[row - SIDES_HERE + side];
+                    tried[row + side] = isInTheWay(order[depth - 1], side, begin) ? earliest(side, begin) : begin;
+                }
             }
+        }
+
+        private boolean isInTheWay(int set, int side, int begin) {
+            return set == (side ^ 1) || begins[set] < begin + need[side] && begin < begins[set] + need[set];
         }
 
         /** A side never begins earlier by others set ahead of it, so what ends too late here does so in every order from here on. */
@@ -1693,9 +1706,9 @@ public final class PanSlices {
             }
         }
 
-        private int earliest(int side) {
+        private int earliest(int side, int from) {
             int n = need[side];
-            int begin = firstRoom(0, n);
+            int begin = firstRoom(from, n);
             int other = side ^ 1;
             if (begins[other] == NONE) {
                 return begin;
@@ -1944,20 +1957,19 @@ public final class PanSlices {
             int minute = 0;
             while (allLeft > 0 && minute < MINUTES) {
                 onNow = 0;
-                for (int place = 0; place < kitchen.places; place++) {
-                    int open = slicesToDraw(kitchen);
-                    if (open > 0) {
+                int open = slicesToDraw(kitchen);
+                for (int place = 0; place < kitchen.places && open > 0; place++) {
+                    x = nextDraw(x);
+                    int s = drawnSlice(kitchen, (x >>> 8) % open);
+                    int side = left[2 * s] > 0 ? 2 * s : 2 * s + 1;
+                    if (left[2 * s] > 0 && left[2 * s + 1] > 0) {
                         x = nextDraw(x);
-                        int s = drawnSlice(kitchen, (x >>> 8) % open);
-                        int side = left[2 * s] > 0 ? 2 * s : 2 * s + 1;
-                        if (left[2 * s] > 0 && left[2 * s + 1] > 0) {
-                            x = nextDraw(x);
-                            side += (x >>> 8) % 2;
-                        }
-                        onNow |= 1 << s;
-                        left[side]--;
-                        allLeft--;
+                        side += (x >>> 8) % 2;
                     }
+                    onNow |= 1 << s;
+                    open--;
+                    left[side]--;
+                    allLeft--;
                 }
                 minute++;
             }
@@ -1999,6 +2011,7 @@ public final class PanSlices {
     /** SERVED: from the last end to the first, the most WORTH that can still come when a set of GUESTS is served already. */
     private static final class Servings {
         private static final int SETS = 256;
+        private static final int TOO_MANY = -1000000;
         private static final int MOST_ROUNDS = MOST_MINUTE_TOLD + MOST_GUESTS + 1;
         private static final int MOST_ENDS = 2 * MOST_GUESTS * MOST_GUESTS;
 
@@ -2006,7 +2019,7 @@ public final class PanSlices {
         private final int[] mayBe = new int[MOST_ROUNDS];
         /** The rounds at whose ends some may be served. */
         private final int[] rounds = new int[MOST_ENDS];
-        /** Of a set of GUESTS: their WORTH at the end looked at. */
+        /** Of a set of GUESTS: their WORTH at the end looked at; TOO_MANY for the PLACES. */
         private final int[] gain = new int[SETS];
         private final int[] most = new int[(MOST_ENDS + 1) * SETS];
         final int[] minuteOf = new int[MOST_GUESTS];
@@ -2021,7 +2034,7 @@ public final class PanSlices {
             for (int e = ends - 1; e >= 0; e--) {
                 weigh(kitchen, rounds[e] * minutes);
                 for (int set = 0; set < sets; set++) {
-                    most[e * SETS + set] = mostFrom(e, set, kitchen.places);
+                    most[e * SETS + set] = mostFrom(e, set);
                 }
             }
             trace(kitchen, minutes);
@@ -2029,16 +2042,17 @@ public final class PanSlices {
         }
 
         /**
-         * The others can keep a GUEST from as many ends as they are, no more; so one of the last ends not behind COMES,
-         * as many as there are GUESTS, is always free, and as good as those ahead of them but the lesser in bits;
-         * and one of the first behind COMES is always free, and better than those behind them.
+         * The other GUESTS can fill so many ends and no more; one end more than that has a PLACE free for a GUEST.
+         * So he is never served ahead of that many last ends up to COMES: a later one is worth as much and the lesser
+         * in bits; and never behind that many first ends after COMES: an earlier one is worth more.
          */
         private void collectEnds(Kitchen kitchen, int minutes) {
             Arrays.fill(mayBe, 0);
+            int enough = kitchen.places < 1 ? guests : (guests - 1) / kitchen.places + 1;
             for (int g = 0; g < guests; g++) {
                 int last = minutes < 1 ? 0 : kitchen.comes[g] / minutes;
-                int from = Math.max(last - guests + 1, 1);
-                for (int round = from; round <= last + guests && round < MOST_ROUNDS; round++) {
+                int from = Math.max(last - enough + 1, 1);
+                for (int round = from; round <= last + enough && round < MOST_ROUNDS; round++) {
                     if (worthAt(kitchen, g, round * minutes) > 0) {
                         mayBe[round] |= 1 << g;
                     }
@@ -2066,20 +2080,19 @@ public final class PanSlices {
             for (int g = 0; g < guests; g++) {
                 int worth = worthAt(kitchen, g, minute);
                 for (int set = 0; set < 1 << g; set++) {
-                    gain[set | 1 << g] = gain[set] + worth;
+                    boolean fits = Integer.bitCount(set) < kitchen.places;
+                    gain[set | 1 << g] = fits ? gain[set] + worth : TOO_MANY;
                 }
             }
         }
 
-        private int mostFrom(int e, int set, int places) {
+        private int mostFrom(int e, int set) {
             int next = (e + 1) * SETS;
             int open = mayBe[rounds[e]] & ~set;
             int found = most[next + set];
             // From all that are open down to none, each set among them once.
             for (int now = open; now > 0; now = now - 1 & open) {
-                if (Integer.bitCount(now) <= places) {
-                    found = Math.max(found, gain[now] + most[next + (set | now)]);
-                }
+                found = Math.max(found, gain[now] + most[next + (set | now)]);
             }
             return found;
         }
@@ -2090,7 +2103,7 @@ public final class PanSlices {
             for (int e = 0; e < ends; e++) {
                 int minute = rounds[e] * minutes;
                 weigh(kitchen, minute);
-                int now = leastAsGood(e, set, kitchen.places);
+                int now = leastAsGood(e, set);
                 for (int g = 0; g < guests; g++) {
                     if ((now >>> g & 1) != 0) {
                         minuteOf[g] = minute;
@@ -2100,13 +2113,12 @@ public final class PanSlices {
             }
         }
 
-        private int leastAsGood(int e, int set, int places) {
+        private int leastAsGood(int e, int set) {
             int next = (e + 1) * SETS;
             int open = mayBe[rounds[e]] & ~set;
             int due = most[e * SETS + set];
             for (int now = 0; now < SETS; now++) {
-                if ((now & ~open) == 0 && Integer.bitCount(now) <= places
-                    && gain[now] + most[next + (set | now)] == due) {
+                if ((now & ~open) == 0 && gain[now] + most[next + (set | now)] == due) {
                     return now;
                 }
             }
