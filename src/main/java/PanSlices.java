@@ -621,9 +621,10 @@ public final class PanSlices {
     private static final class Tape {
         static final int END = 0;
         static final int BAD = 1;
-        static final int WORD = 2;
-        static final int NUMBER = 3;
-        static final int SIGN = 4;
+        static final int NAME = 2;
+        static final int OWN_WORD = 3;
+        static final int NUMBER = 4;
+        static final int SIGN = 5;
 
         static final int PAN = 0;
         static final int REST = 1;
@@ -646,6 +647,8 @@ public final class PanSlices {
         static final int BEFORE_LETTERS = 'a' - 1;
         private static final int LONGEST_WORD = 6;
         private static final int LONGEST_NUMBER = 3;
+        /** A TOKEN for each byte, and the end. */
+        private static final int MOST_TOKENS = MOST_FED + 1;
         /** The words that are no NAMES, six signs each, in the order of the numbers above. */
         private static final String OWN_WORDS =
             "pan   rest  cold  burn  slice guest sort  once  top   under goes  ends  not   done  after and   or    ";
@@ -653,14 +656,15 @@ public final class PanSlices {
         final byte[] bytes = new byte[MOST_FED];
         int fed = 0;
         private final int[] ownWords = new int[OWN_WORDS.length() / LONGEST_WORD];
-        private int length;
-        private int limit;
-        private int next;
+        private final int[] kinds = new int[MOST_TOKENS];
+        private final int[] places = new int[MOST_TOKENS];
+        private final int[] values = new int[MOST_TOKENS];
+        private int tokens;
+        private int passed;
+        /** The TOKEN that comes: its kind, and of a NUMBER what it is, of a SIGN its byte, of a NAME its letters, five bits each. */
         int kind;
-        int place;
-        /** Of a NUMBER what it is, of a SIGN its byte, of a WORD its letters, five bits each. */
         int value;
-        /** Of a WORD which of the words that are no NAMES. */
+        /** Which of the words that are no NAMES comes; NONE: another TOKEN does. */
         int ownWord;
         int faultKind;
         int faultPlace;
@@ -684,51 +688,40 @@ public final class PanSlices {
             }
         }
 
-        /** What is fed is the text to be read now, and the tape is empty. */
+        /** What is fed is cut into TOKENS, and the tape is empty. */
         void open(int mostBytes) {
-            length = fed;
+            int length = fed;
+            int next = 0;
             fed = 0;
-            limit = mostBytes;
-            next = 0;
+            tokens = 0;
+            // Behind so many bytes no TOKEN begins; one that begins ahead is read whole.
+            while (next < length && next < mostBytes) {
+                if (bytes[next] == ' ' || bytes[next] == '\n') {
+                    next++;
+                } else {
+                    next = readToken(next, length);
+                }
+            }
+            if (length > mostBytes) {
+                putToken(BAD, mostBytes, 0);
+            } else {
+                putToken(END, length, 0);
+            }
             faultKind = 0;
             faultPlace = 0;
+            passed = 0;
             advance();
         }
 
-        void advance() {
-            while (next < length && (bytes[next] == ' ' || bytes[next] == '\n')) {
-                next++;
-            }
-            place = next;
-            value = 0;
-            ownWord = NONE;
-            if (length > limit && next >= limit) {
-                place = limit;
-                kind = BAD;
-            } else if (next >= length) {
-                kind = END;
-            } else if (isLetter(bytes[next]) || isDigit(bytes[next])) {
-                readRun();
-            } else {
-                readSign();
-            }
-        }
-
-        private static boolean isLetter(int sign) {
-            return sign >= 'a' && sign <= 'z';
-        }
-
-        private static boolean isDigit(int sign) {
-            return sign >= '0' && sign <= '9';
-        }
-
-        private void readRun() {
+        /** The TOKEN that begins at a place is put behind the others: the place behind it. */
+        private int readToken(int from, int length) {
+            int next = from;
             int letters = 0;
             int digits = 0;
             int word = 0;
             int number = 0;
-            while (next < length && (isLetter(bytes[next]) || isDigit(bytes[next]))) {
-                if (isLetter(bytes[next])) {
+            while (next < length && isLetterOrDigit(bytes[next])) {
+                if (bytes[next] >= 'a') {
                     letters++;
                     word = word * 32 + bytes[next] - BEFORE_LETTERS;
                 } else {
@@ -737,37 +730,54 @@ public final class PanSlices {
                 }
                 next++;
             }
-            if (digits == 0 && letters <= LONGEST_WORD) {
-                kind = WORD;
-                value = word;
-                ownWord = indexOfOwn(word);
-            } else if (letters == 0 && digits <= LONGEST_NUMBER) {
-                kind = NUMBER;
-                value = number;
-            } else {
-                kind = BAD;
+            if (next == from) {
+                putToken(isSignByte(bytes[from]) ? SIGN : BAD, from, bytes[from]);
+                return from + 1;
             }
+            if (digits == 0 && letters <= LONGEST_WORD) {
+                putWord(from, word);
+            } else if (letters == 0 && digits <= LONGEST_NUMBER) {
+                putToken(NUMBER, from, number);
+            } else {
+                putToken(BAD, from, 0);
+            }
+            return next;
         }
 
-        private int indexOfOwn(int word) {
+        private static boolean isLetterOrDigit(int sign) {
+            return sign >= 'a' && sign <= 'z' || sign >= '0' && sign <= '9';
+        }
+
+        private static boolean isSignByte(int sign) {
+            return sign == ';' || sign == '(' || sign == ')' || sign == '<' || sign == '=' || sign == '>';
+        }
+
+        private void putWord(int place, int word) {
             for (int w = 0; w < ownWords.length; w++) {
                 if (ownWords[w] == word) {
-                    return w;
+                    putToken(OWN_WORD, place, w);
+                    return;
                 }
             }
-            return NONE;
+            putToken(NAME, place, word);
         }
 
-        private void readSign() {
-            int sign = bytes[next];
-            boolean known = sign == ';' || sign == '(' || sign == ')' || sign == '<' || sign == '=' || sign == '>';
-            kind = known ? SIGN : BAD;
-            value = sign;
-            next++;
+        private void putToken(int tokenKind, int place, int tokenValue) {
+            if (tokens < MOST_TOKENS) {
+                kinds[tokens] = tokenKind;
+                places[tokens] = place;
+                values[tokens] = tokenValue;
+                tokens++;
+            }
         }
 
-        boolean isName() {
-            return kind == WORD && ownWord == NONE;
+        void advance() {
+            if (passed < tokens) {
+                kind = kinds[passed];
+                value = values[passed];
+                ownWord = kind == OWN_WORD ? value : NONE;
+                passed++;
+            }
         }
 
         boolean isSign(int sign) {
@@ -777,7 +787,7 @@ public final class PanSlices {
         /** False, so that a caller can hand the FAULT on in one line. */
         boolean fail(int kindOfFault) {
             faultKind = kindOfFault;
-            faultPlace = place;
+            faultPlace = passed > 0 ? places[passed - 1] : 0;
             return false;
         }
 
@@ -806,7 +816,7 @@ public final class PanSlices {
 
         /** The SLICE whose NAME comes, or NONE behind a FAULT; the NAME is not passed. */
         int findSlice(Kitchen kitchen) {
-            if (!isName()) {
+            if (kind != NAME) {
                 fail(1);
                 return NONE;
             }
@@ -1047,7 +1057,7 @@ public final class PanSlices {
         }
 
         private boolean takeNewName(Tape tape, int[] names, int at) {
-            if (!tape.isName()) {
+            if (tape.kind != Tape.NAME) {
                 return tape.fail(1);
             }
             int name = tape.value;
@@ -1085,7 +1095,7 @@ public final class PanSlices {
         }
 
         private int bitsOf(int k) {
-            return has(k) ? goes[k] : 0;
+            return k >= 0 && k < size ? goes[k] : 0;
         }
 
         /** 2 times the SLICE, 1 more for UNDER. */
@@ -1106,7 +1116,8 @@ public final class PanSlices {
         }
 
         int endOf(int k) {
-            return beginOf(k) + minutesOf(k);
+            int bits = bitsOf(k);
+            return (bits >>> BEGIN_SHIFT) + (bits >>> MINUTES_SHIFT & 31);
         }
 
         int append(int side, int begin, int place, int n) {
