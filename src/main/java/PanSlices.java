@@ -1,7 +1,7 @@
 import java.util.Arrays;
 import java.util.NoSuchElementException;
 
-/** A kitchen with a pan, its slices, guests and sorts of pans, and plans for them; ../shared/DOC.md says what each call promises. */
+/** A kitchen with a pan, its slices, guests and sorts of pans, and plans for them; DOC.md says what each call promises. */
 public final class PanSlices {
     public static final int NONE = -1;
 
@@ -661,8 +661,8 @@ public final class PanSlices {
         private final int[] values = new int[MOST_TOKENS];
         private int tokens;
         private int passed;
-        /** The TOKEN that comes: its kind, and of a NUMBER what it is, of a SIGN its byte, of a NAME its letters, five bits each. */
         int kind;
+        /** Of a NUMBER what it is, of a SIGN its byte, of a NAME its letters, five bits each. */
         int value;
         /** Which of the words that are no NAMES comes; NONE: another TOKEN does. */
         int ownWord;
@@ -901,16 +901,21 @@ public final class PanSlices {
         }
 
         int sliceNamed(int name) {
-            return indexOf(sliceNames, slices, name);
-        }
-
-        private static int indexOf(int[] names, int size, int name) {
-            for (int i = 0; i < size && i < names.length; i++) {
-                if (names[i] == name) {
-                    return i;
+            for (int s = 0; s < slices; s++) {
+                if (sliceNames[s] == name) {
+                    return s;
                 }
             }
             return NONE;
+        }
+
+        private boolean isGuestsName(int name) {
+            for (int g = 0; g < guests; g++) {
+                if (guestNames[g] == name) {
+                    return true;
+                }
+            }
+            return false;
         }
 
         int longestSlice() {
@@ -1061,7 +1066,7 @@ public final class PanSlices {
                 return tape.fail(1);
             }
             int name = tape.value;
-            if (sliceNamed(name) != NONE || indexOf(guestNames, guests, name) != NONE) {
+            if (sliceNamed(name) != NONE || isGuestsName(name)) {
                 return tape.fail(3);
             }
             if (at < names.length) {
@@ -1291,7 +1296,7 @@ public final class PanSlices {
         }
     }
 
-    /** A SENTENCE as steps behind their parts (both sides of an 'and' stand ahead of it), each giving a set of SLICES as bits. */
+    /** A SENTENCE as steps behind their parts (what an 'and' joins stands ahead of it), each giving SLICES as bits. */
     private static final class Sentence {
         private static final int MOST_ONES = 20;
         private static final int DEEPEST = 8;
@@ -1631,10 +1636,10 @@ public final class PanSlices {
             }
             tryAll(depth);
             for (int side = 0; side < sides; side++) {
-                if (bestEnds <= leastEnds || ends >= bestEnds || isHopeless(depth)) {
-                    return;
-                }
                 if (begins[side] == NONE && !hasLesserTwin(side) && !couldChange(depth, side)) {
+                    if (bestEnds <= leastEnds || ends >= bestEnds || isTooLate(depth)) {
+                        return;
+                    }
                     int begin = tried[depth * SIDES_HERE + side];
                     order[depth] = side;
                     begins[side] = begin;
@@ -1665,8 +1670,8 @@ public final class PanSlices {
             return set == (side ^ 1) || begins[set] < begin + need[side] && begin < begins[set] + need[set];
         }
 
-        /** A side never begins earlier by others set ahead of it, so what ends too late here does so in every order from here on. */
-        private boolean isHopeless(int depth) {
+        /** A side never begins earlier by others set ahead of it: what ends too late here does so in every order from here on. */
+        private boolean isTooLate(int depth) {
             int row = depth * SIDES_HERE;
             for (int top = 0; top + 1 < sides; top += 2) {
                 int under = top + 1;
@@ -1684,7 +1689,7 @@ public final class PanSlices {
             return false;
         }
 
-        /** With an untouched side or SLICE alike ahead of it, the same order with the two changed is a lesser one that ENDS alike. */
+        /** With a side or SLICE alike ahead of it, both untouched, the order with the two changed is lesser and ENDS alike. */
         private boolean hasLesserTwin(int side) {
             if (side % 2 == UNDER && begins[side - 1] == NONE && need[side - 1] == need[side]) {
                 return true;
@@ -1702,7 +1707,7 @@ public final class PanSlices {
             return false;
         }
 
-        /** If a lesser side than the one just set begins where it would have begun ahead of that, the two changed are a lesser order that ENDS alike. */
+        /** If a side lesser than the one just set begins where it would have ahead of that, the two can change: lesser, and alike. */
         private boolean couldChange(int depth, int side) {
             if (depth < 1 || side >= order[depth - 1]) {
                 return false;

@@ -174,7 +174,8 @@ public final class MadeTest {
         // By turns: a and b are off and on again, in several GOES.
         x = Check.with("pan 1;slice a 3 1;slice b 3 1;");
         Check.due("the longest by turns", x.cook(1), 8);
-        Check.dueText("plan", Check.written(x), "a t 0 0 1;b t 1 0 1;a t 2 0 1;b t 3 0 1;a t 4 0 1;b t 5 0 1;a u 6 0 1;b u 7 0 1;");
+        Check.dueText("plan", Check.written(x),
+            "a t 0 0 1;b t 1 0 1;a t 2 0 1;b t 3 0 1;a t 4 0 1;b t 5 0 1;a u 6 0 1;b u 7 0 1;");
     }
 
     private static void cooksOfOnce() {

@@ -354,7 +354,8 @@ public final class TextTest {
         Check.due("ninth is none", Check.sentence(x, "(".repeat(8) + ")"), -1 - 8);
         Check.due("its fault", x.fault(), 1);
         Check.due("side by side at 8", Check.sentence(x, "(".repeat(7) + "once and done or once" + ")".repeat(7)), 10);
-        Check.due("all kinds", Check.sentence(x, "not once and(done or after a)or top<1\nand under=2 and goes>3 and ends<999"), 9);
+        Check.due("all kinds", Check.sentence(x,
+            "not once and(done or after a)or top<1\nand under=2 and goes>3 and ends<999"), 9);
         Check.due("no fault", x.fault(), 0);
     }
 }
