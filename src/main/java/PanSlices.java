@@ -2046,7 +2046,9 @@ public final class PanSlices {
             guests = kitchen.guests;
             collectEnds(kitchen, minutes);
             int sets = 1 << guests;
-            Arrays.fill(most, ends * SETS, ends * SETS + sets, 0);
+            for (int set = 0; set < sets; set++) {
+                most[ends * SETS + set] = 0;
+            }
             for (int e = ends - 1; e >= 0; e--) {
                 weigh(kitchen, rounds[e] * minutes);
                 for (int set = 0; set < sets; set++) {
@@ -2158,8 +2160,10 @@ public final class PanSlices {
                 return NONE;
             }
             sorts = kitchen.sorts;
-            Arrays.fill(costs, sorts * ROW, (sorts + 1) * ROW, TOO_DEAR);
             costs[sorts * ROW] = 0;
+            for (int p = 1; p <= wanted; p++) {
+                costs[sorts * ROW + p] = TOO_DEAR;
+            }
             for (int k = sorts - 1; k >= 0; k--) {
                 costs[k * ROW] = 0;
                 for (int p = 1; p <= wanted; p++) {
