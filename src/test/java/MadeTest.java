@@ -79,6 +79,10 @@ public final class MadeTest {
         PanSlices x = Check.with("pan 2;rest 5;slice a 2 2;");
         Check.due("minutes", x.one(), 9);
         Check.dueText("plan", Check.written(x), "a t 0 0 2;a u 7 0 2;");
+        // b under is set last and comes on ahead of b top, in the rest of a.
+        x = Check.with("pan 1;rest 3;slice a 1 1;slice b 4 1;");
+        Check.due("minutes", x.one(), 9);
+        Check.dueText("plan", Check.written(x), "a t 0 0 1;b u 1 0 1;a u 4 0 1;b t 5 0 4;");
         x = Check.with("pan 1;rest 3;slice a 1 1;slice b 2 2;");
         // b top, a top, two minutes of nothing, b under at 5 (its rest is over), a under at 7.
         Check.due("minutes", x.one(), 8);
@@ -167,10 +171,15 @@ public final class MadeTest {
         Check.dueText("plan", Check.written(x), "a t 0 0 1;b t 0 1 1;a u 1 0 1;b u 1 1 1;c t 2 0 1;c u 3 0 1;");
         Check.due("no such cook", x.cook(3), -1);
         Check.due("no such cook", x.cook(-1), -1);
-        // b is put on ahead of a in the second minute, but each side stays where it was: the same GOES.
+        // a is liked best in the second minute, but its side stays on PLACE 1, where it was: the same GO.
+        x = Check.with("slice a 5 1;slice b 6 1;");
+        Check.due("the longest", x.cook(1), 7);
+        Check.dueText("plan", Check.written(x), "b t 0 0 6;a t 0 1 5;a u 5 1 1;b u 6 0 1;");
+        // In the fourth minute a takes PLACE 0, the least that is free, and b, who was there, must move.
         x = Check.with("slice a 1 2;slice b 1 4;slice c 3 1;");
         Check.due("the longest", x.cook(1), 6);
-        Check.due("judge", x.judge(), -1);
+        Check.dueText("plan", Check.written(x), "b t 0 0 1;c t 0 1 1;b u 1 0 2;a t 1 1 1;c t 2 1 1;a u 3 0 1;b u 3 1 1;"
+            + "c t 4 0 1;a u 4 1 1;b u 5 0 1;c u 5 1 1;");
         // By turns: a and b are off and on again, in several GOES.
         x = Check.with("pan 1;slice a 3 1;slice b 3 1;");
         Check.due("the longest by turns", x.cook(1), 8);

@@ -140,6 +140,8 @@ public final class PlanTest {
         y.add(0, 0, 240, 0, 20);
         y.later(0, 660);
         Check.dueText("write 900", Check.written(y), "z t 900 0 20;");
+        Check.plan(y, "z top 9 0 9;z top 10 0 10;z top 99 0 1;z top 100 0 1;z under 109 1 19;");
+        Check.dueText("write 100", Check.written(y), "z t 9 0 9;z t 10 0 10;z t 99 0 1;z t 100 0 1;z u 109 1 19;");
     }
 
     private static void adding() {
@@ -165,6 +167,9 @@ public final class PlanTest {
         }
         Check.due("add 400", x.add(0, 1, 240, 1, 20), -1);
         Check.due("goes", x.count(6), 400);
+        Check.due("undo the last that was done", x.undo(), 7);
+        Check.due("goes", x.count(6), 399);
+        Check.due("add 399", x.add(0, 1, 240, 1, 20), 399);
         Check.due("write", x.write(), 400 * 18);
         Check.due("last byte", x.byteAt(7199), ';');
         Check.due("judge", x.judge(), 1);
