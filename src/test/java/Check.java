@@ -113,7 +113,15 @@ final class Check {
         looked++;
         if (!got.equals(want)) {
             wrong++;
-            System.out.println(what + " answered " + got + ", due is " + want);
+            String[] gotLines = got.split("\n", -1);
+            String[] wantLines = want.split("\n", -1);
+            int i = 0;
+            while (i + 1 < Math.min(gotLines.length, wantLines.length) && gotLines[i].equals(wantLines[i])) {
+                i++;
+            }
+            if (wrong <= 50) {
+                System.out.println(what + " answered " + gotLines[i] + ", due is " + wantLines[i]);
+            }
         }
     }
 }
