@@ -15,6 +15,7 @@ public final class EdgePlanTest {
         minutesThatAreAsked();
         bytesThatAreAsked();
         longestText();
+        numbersWritten();
         severalOrLongest();
         severalCuts();
         slicesOfOne();
@@ -271,6 +272,16 @@ public final class EdgePlanTest {
         }
         Check.due("all bytes", alike, true);
         Check.due("behind it", x.byteAt(7200), -1);
+    }
+
+    /** Every minute at which a GO can begin, and all minutes that it can have, by their least digits. */
+    private static void numbersWritten() {
+        PanSlices x = Check.with("slice a 20 20;pan 4;");
+        for (int begin = 0; begin <= 900; begin++) {
+            Check.plan(x, "a under 7 " + begin % 4 + " " + (1 + begin % 20) + ";");
+            x.later(0, begin - 7);
+            Check.dueText("from " + begin, Check.written(x), "a u " + begin + " " + begin % 4 + " " + (1 + begin % 20) + ";");
+        }
     }
 
     // ---- what is made ----
@@ -633,6 +644,12 @@ public final class EdgePlanTest {
                 Check.plan(x, "b top 0 0 " + other + ";a under " + other + " 0 1;a top 240 1 2;");
                 Check.due("early", x.early(), 1);
                 Check.due("ahead of " + other, x.go(2, 2), other >= rest + 2 ? 0 : other + 1 + rest);
+            }
+            // Rest is for the SLICE, not for the PLACE: a hole of 3 minutes takes 3, and just behind another's GO.
+            for (int n = 1; n <= 4; n++) {
+                Check.plan(x, "b top 0 1 3;b under " + (3 + rest) + " 0 2;a top 240 0 " + n + ";");
+                Check.due("early", x.early(), 1);
+                Check.due("a hole of " + (3 + rest) + " for " + n, x.go(2, 2), n <= 3 + rest ? 0 : 5 + rest);
             }
         }
     }

@@ -12,6 +12,7 @@ public final class EdgeStateTest {
         endOfTheTape();
         tapeIsEmptyThen();
         linesThatAreCounted();
+        nothingOfTheOldKitchen();
         latestFault();
         slicesThatAreAsked();
         guestsThatAreAsked();
@@ -154,6 +155,28 @@ public final class EdgeStateTest {
             Check.due(n + " lines", Check.kitchen(new PanSlices(), text.toString()), n);
             text.append(n < lines.length ? lines[n] : "");
         }
+    }
+
+    /** "is the KITCHEN now": what one ahead told, taken or with a FAULT, is nothing to it. */
+    private static void nothingOfTheOldKitchen() {
+        String old = "pan 4;rest 9;cold 99;burn 1 2;slice a 9 9 once;slice b 9 9 once;guest g 9 9;sort 9 9;";
+        for (String text : new String[] {"", "slice b 1 1;", "slice b 1 1;slice a 2 2;guest g 1 1;sort 1 1;", "pan 1;guest a 1 1;"}) {
+            String due = Look.at(Check.with(text));
+            PanSlices x = Check.with(old);
+            Check.kitchen(x, text);
+            Check.dueText("behind another", Look.at(x), due);
+            PanSlices y = new PanSlices();
+            Check.due("a FAULT at the end", Check.kitchen(y, old + "?") < 0, true);
+            Check.kitchen(y, text);
+            Check.dueText("behind a FAULT", Look.at(y), due);
+        }
+        PanSlices x = Check.with("slice a 1 1;");
+        Check.plan(x, "a top 0 0 1;a under 1 0 1;?");
+        Check.due("a plan behind a FAULT", Check.plan(x, "a top 5 0 1;"), 1);
+        Check.due("goes", x.count(6), 1);
+        Check.sentence(x, "once or done or ?");
+        Check.due("a sentence behind a FAULT", Check.sentence(x, "not done"), 2);
+        Check.due("said", x.said(-1), 1);
     }
 
     /** fault(): "The kind of the FAULT of the latest kitchen(), plan() or sentence(); 0 without one and ahead of any". */
@@ -378,6 +401,12 @@ public final class EdgeStateTest {
         saidOf(x, "after c");
         saidOf(x, "after d");
         saidOf(x, "not after a", 0, 1, 3);
+        // The other one ends at 1, the earliest there is.
+        PanSlices y = Check.with("slice a 1 1;slice b 1 1;slice c 1 1;");
+        Check.plan(y, "a top 0 0 1;b top 1 0 1;");
+        saidOf(y, "after a", 1);
+        saidOf(y, "after b");
+        saidOf(y, "after c");
         // A minute more or less.
         x.later(2, 1);
         saidOf(x, "after a", 1, 2);

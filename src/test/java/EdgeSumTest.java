@@ -559,7 +559,10 @@ public final class EdgeSumTest {
     /** "x becomes x * 1103515245 + 12345 (an int, wrapping), the draw is (x >>> 8) % n". */
     private static void morningsWrap() {
         String[] kitchens = {"slice a 1 1;", "pan 4;slice a 20 20;slice b 20 20;slice c 20 20;slice d 20 20;slice e 20 20;"
-            + "slice f 20 20;slice g 20 20;slice h 20 20;", "pan 1;slice a 20 1;slice b 1 20;", "pan 3;slice a 9 4;slice b 2 2;"};
+            + "slice f 20 20;slice g 20 20;slice h 20 20;", "pan 1;slice a 20 1;slice b 1 20;", "pan 3;slice a 9 4;slice b 2 2;",
+            "slice a 1 1;slice b 9 9;slice c 2 3;", "slice a 9 9;slice b 1 1;slice c 2 3;slice d 7 1;",
+            "pan 3;slice a 2 1;slice b 3 3;slice c 1 9;slice d 7 1;slice e 4 4;slice f 1 1;",
+            "pan 4;slice a 1 20;slice b 20 1;slice c 12 1;slice d 3 4;slice e 9 9;slice f 1 1;slice g 2 2;slice h 10 20;"};
         int[] seeds = {0, 1, -1, 2, Integer.MAX_VALUE, Integer.MAX_VALUE - 1, Integer.MIN_VALUE, Integer.MIN_VALUE + 1, 1 << 30,
             255, 256, -12345, 1103515245};
         for (String kitchen : kitchens) {

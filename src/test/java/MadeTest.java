@@ -17,6 +17,8 @@ public final class MadeTest {
         cooksOfOnce();
         cooksWithRest();
         cooksKeepTheRules();
+        cooksByTheModel();
+        cookOfTheHalfDone();
         bestCook();
         bounds();
         Check.close("MadeTest");
@@ -93,11 +95,12 @@ public final class MadeTest {
     /** All orders by the Model, with one to four SLICES. */
     private static void oneGoByOrders() {
         Random random = new Random(7);
-        for (int i = 0; i < 60; i++) {
+        for (int i = 0; i < 900; i++) {
             StringBuilder t = new StringBuilder();
-            t.append("pan ").append(1 + random.nextInt(4)).append(";rest ").append(random.nextInt(4)).append(";");
-            int slices = i % 3 == 0 ? 4 : 1 + random.nextInt(3);
-            int most = i % 2 == 0 ? 3 : 20;
+            t.append("pan ").append(1 + random.nextInt(i % 2 == 0 ? 2 : 4)).append(";rest ").append(random.nextInt(i % 5 == 0 ? 10 : 4));
+            t.append(";");
+            int slices = i % 30 == 0 ? 4 : 1 + random.nextInt(3);
+            int most = i % 3 == 0 ? 20 : i % 3 == 1 ? 2 : 6;
             for (int s = 0; s < slices; s++) {
                 t.append("slice ").append((char) ('a' + s)).append(" ").append(1 + random.nextInt(most)).append(" ");
                 t.append(1 + random.nextInt(most)).append(";");
@@ -219,6 +222,36 @@ public final class MadeTest {
             }
             Check.due("best", x.cook(x.best()), Math.min(x.cook(0), Math.min(x.cook(1), x.cook(2))));
         }
+    }
+
+    private static void cooksByTheModel() {
+        Random random = new Random(17);
+        for (int i = 0; i < 400; i++) {
+            String head = "pan " + (1 + random.nextInt(4)) + ";rest " + (i % 2 == 0 ? random.nextInt(3) : random.nextInt(10)) + ";";
+            StringBuilder t = new StringBuilder(head);
+            int most = i % 3 == 0 ? 20 : 4;
+            for (int s = 0; s < 1 + i % 8; s++) {
+                t.append("slice ").append((char) ('a' + s)).append(" ").append(1 + random.nextInt(most)).append(" ");
+                t.append(1 + random.nextInt(most)).append(random.nextInt(3) == 0 ? " once;" : ";");
+            }
+            PanSlices x = Check.with(t.toString());
+            Model model = modelOf(t.toString());
+            for (int rule = 0; rule < 3; rule++) {
+                Check.due("cook " + rule + " of " + t, x.cook(rule), model.cook(rule));
+                model.write();
+                Check.dueText("cook " + rule + " of " + t, Check.written(x), model.text);
+            }
+        }
+    }
+
+    private static void cookOfTheHalfDone() {
+        // At minute 4 a and c are half done, and b, who is ahead of c, is not: by 2 b waits, by 0 c does.
+        PanSlices x = Check.with("pan 2;rest 2;slice a 1 5;slice b 5 1;slice c 1 1;");
+        Check.due("the half done", x.cook(2), 9);
+        Check.dueText("plan", Check.written(x),
+            "a t 0 0 1;b t 0 1 4;c t 1 0 1;a u 3 0 5;c u 4 1 1;b t 5 1 1;b u 8 0 1;");
+        Check.due("the next", x.cook(0), 8);
+        Check.dueText("plan", Check.written(x), "a t 0 0 1;b t 0 1 5;c t 1 0 1;a u 3 0 5;c u 5 1 1;b u 7 1 1;");
     }
 
     private static void bestCook() {
