@@ -695,7 +695,7 @@ public final class PanSlices {
             fed = 0;
             tokens = 0;
             // Behind so many bytes no TOKEN begins; one that begins ahead is read whole.
-            while (next < length && next < mostBytes) {
+            for (int step = 0; step < MOST_FED && next < length && next < mostBytes; step++) {
                 if (bytes[next] == ' ' || bytes[next] == '\n') {
                     next++;
                 } else {

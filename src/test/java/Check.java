@@ -53,11 +53,11 @@ final class Check {
         return text.getBytes(StandardCharsets.ISO_8859_1);
     }
 
-    /** The five numbers of the twenty bytes from a place on; 0 behind the end. */
+    /** The five numbers of the twenty bytes from a place on; behind the end letters, which nobody may see. */
     static int[] numbers(byte[] bytes, int from) {
         int[] five = new int[5];
         for (int i = 0; i < 20; i++) {
-            int b = from + i < bytes.length ? bytes[from + i] & 255 : 0;
+            int b = from + i < bytes.length ? bytes[from + i] & 255 : 'z';
             five[i / 4] = five[i / 4] << 8 | b;
         }
         return five;

@@ -10,6 +10,7 @@ public final class EdgeStateTest {
         twentyBytes();
         mostBytes();
         endOfTheTape();
+        bytesBehindTheEnd();
         tapeIsEmptyThen();
         linesThatAreCounted();
         nothingOfTheOldKitchen();
@@ -119,6 +120,31 @@ public final class EdgeStateTest {
         Check.due("end 0 of an empty tape", x.end(0), true);
     }
 
+    /** "The tape has its first n bytes alone": whatever was behind them is nothing to a text, nor to brown(). */
+    private static void bytesBehindTheEnd() {
+        for (int b = 0; b < 256; b++) {
+            PanSlices x = new PanSlices();
+            Check.due("kitchen", cut(x, "slice ab 1 1;slice a 2 2;", b, 12).kitchen(), -13);
+            Check.due("kitchen", cut(x, "slice ab 1 1;slice a 2 2;", b, 25).kitchen(), 2);
+            Check.due("plan", cut(x, "a top 0 0 1;b", b, 12).plan(), 1);
+            Check.due("plan", cut(x, "a top 0 0 1", b, 11).plan(), -12);
+            Check.due("sentence", cut(x, "top=2", b, 5).sentence(), 1);
+            Check.due("of the second", x.said(0), 1);
+            Check.due("sentence", cut(x, "after a", b, 7).sentence(), 1);
+            Check.due("sentence", cut(x, "", b, 0).sentence(), -1);
+            Check.due("brown", cut(x, "\1", b, 1).brown(2, 1), 2);
+            Check.due("brown", cut(x, "\1\2\3\0\0", b, 5).brown(10, 4), 10 * 10 * 90);
+            Check.due("brown", cut(x, "", b, 0).brown(2, 1), -1);
+        }
+    }
+
+    /** The tape has this text, then the byte up to its end, and is cut. */
+    private static PanSlices cut(PanSlices x, String text, int b, int n) {
+        Check.feed(x, text + String.valueOf((char) b).repeat(640 - text.length()));
+        Check.due("end", x.end(n), true);
+        return x;
+    }
+
     /** "The tape (empty then, here and below)". */
     private static void tapeIsEmptyThen() {
         PanSlices x = Check.with("slice a 1 1;");
@@ -165,6 +191,10 @@ public final class EdgeStateTest {
             PanSlices x = Check.with(old);
             Check.kitchen(x, text);
             Check.dueText("behind another", Look.at(x), due);
+            x.several();
+            Check.due("forgotten behind another", x.forgotten(), -1);
+            Check.due("done behind another", x.done(), (1 << x.count(3)) - 1);
+            x.undo();
             PanSlices y = new PanSlices();
             Check.due("a FAULT at the end", Check.kitchen(y, old + "?") < 0, true);
             Check.kitchen(y, text);

@@ -277,6 +277,18 @@ public final class EdgeSumTest {
             }
             Check.due("the last end by " + minutes, found, first + last * minutes);
         }
+        // Eight who never meet: each is served when he comes, be it early or late in the day.
+        text = new StringBuilder("pan 1;cold 99;");
+        for (int g = 0; g < 8; g++) {
+            text.append("guest ").append((char) ('a' + g)).append(' ').append(16 + 32 * (g * 3 % 8)).append(' ').append(90 + g).append(';');
+        }
+        served(text.toString(), 1, 748, 16, 112, 208, 48, 144, 240, 80, 176);
+        // And by pairs, on one PLACE: the first of a pair when they come, so that the set of that end is the lesser.
+        text = new StringBuilder("pan 1;cold 0;");
+        for (int g = 0; g < 8; g++) {
+            text.append("guest ").append((char) ('a' + g)).append(' ').append(24 + 72 * (g / 2)).append(" 99;");
+        }
+        served(text.toString(), 1, 788, 24, 25, 96, 97, 168, 169, 240, 241);
         // A minute later costs both alike, as long as it is worth something: the first GUEST first.
         served("guest a 0 1;guest b 0 4;pan 1;", 1, 3, -1, 1);
         served("guest a 0 2;guest b 0 4;pan 1;", 1, 3, 1, 2);
