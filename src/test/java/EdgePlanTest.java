@@ -1,3 +1,5 @@
+import java.util.Random;
+
 /** The edges of GOES and PLANS: WRONG, DONE, what is made, and promises 10 to 31. One test a sentence. */
 public final class EdgePlanTest {
     private EdgePlanTest() { }
@@ -35,6 +37,7 @@ public final class EdgePlanTest {
         laterMinutes();
         earlyMinutes();
         earlyRest();
+        earlyOfDrawnPlans();
         earlyOfThoseThatCannot();
         undoneChanges();
         eightAreKept();
@@ -652,6 +655,43 @@ public final class EdgePlanTest {
                 Check.due("a hole of " + (3 + rest) + " for " + n, x.go(2, 2), n <= 3 + rest ? 0 : 5 + rest);
             }
         }
+    }
+
+    /** PLANS as they are drawn, crowded and with 'rest': each GO by the first minute that is not WRONG, minute by minute. */
+    private static void earlyOfDrawnPlans() {
+        Random random = new Random(12);
+        for (int i = 0; i < 4000; i++) {
+            int places = 1 + random.nextInt(2 + i % 3);
+            StringBuilder kitchen = new StringBuilder("pan " + places + ";rest " + random.nextInt(i % 2 == 0 ? 3 : 10) + ";");
+            StringBuilder plan = new StringBuilder();
+            int slices = 1 + random.nextInt(3);
+            for (int s = 0; s < slices; s++) {
+                kitchen.append("slice ").append((char) ('a' + s)).append(" ").append(3 + random.nextInt(18)).append(" ");
+                kitchen.append(3 + random.nextInt(18)).append(random.nextInt(4) == 0 ? " once;" : ";");
+            }
+            int goes = 2 + random.nextInt(8);
+            for (int k = 0; k < goes; k++) {
+                plan.append((char) ('a' + random.nextInt(slices))).append(random.nextBoolean() ? " top " : " under ");
+                plan.append(random.nextInt(i % 5 == 0 ? 241 : 30)).append(" ").append(random.nextInt(places)).append(" ");
+                plan.append(1 + random.nextInt(i % 7 == 0 ? 9 : 3)).append(";");
+            }
+            PanSlices x = Check.with(kitchen.toString());
+            Model model = new Model();
+            model.tape = Check.bytes(kitchen.toString());
+            model.kitchen();
+            model.tape = Check.bytes(plan.toString());
+            Check.due("plan", Check.plan(x, plan.toString()), model.plan());
+            Check.due("judge of " + kitchen + plan, x.judge(), model.judge());
+            Check.due("why of " + kitchen + plan, x.why(), model.why);
+            Check.due("early of " + kitchen + plan, x.early(), model.early());
+            model.write();
+            Check.dueText("early of " + kitchen + plan, Check.written(x), model.text);
+        }
+        // The PLACE is taken again while the SLICE rests: the rest goes on.
+        PanSlices x = Check.with("rest 3;slice a 1 1;slice b 1 1;");
+        Check.plan(x, "a top 0 0 1;b top 1 0 1;a under 9 0 1;");
+        Check.due("early", x.early(), 1);
+        Check.due("behind the rest", x.go(2, 2), 4);
     }
 
     /** A GO that is WRONG in every minute stays. */

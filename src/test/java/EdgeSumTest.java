@@ -379,6 +379,8 @@ public final class EdgeSumTest {
         PanSlices x = Check.with("sort 1 1;");
         for (int n : new int[] {0, 1, 2, 199, 200, 201}) {
             Check.due("hotel of " + n, x.hotel(n, 1, 2), n >= 1 && n <= 200 ? n : -1);
+            // So few PLACES would do for 201, too: it is the number that is refused.
+            Check.due("hotel of " + n + " in 400", x.hotel(n, 1, 400), n >= 1 && n <= 200 ? 1 : -1);
         }
         for (int minutes : new int[] {0, 1, 2, 19, 20, 21}) {
             Check.due("hotel of " + minutes + " a side", x.hotel(6, minutes, 4 * minutes), minutes >= 1 && minutes <= 20 ? 3 : -1);
@@ -388,6 +390,7 @@ public final class EdgeSumTest {
         }
         for (int far : FAR) {
             Check.due("hotel of " + far, x.hotel(far, 1, 2), -1);
+            Check.due("hotel of " + far + " in 400", x.hotel(far, 1, 400), -1);
             Check.due("hotel of " + far + " a side", x.hotel(1, far, 2), -1);
             Check.due("hotel in " + far, x.hotel(1, 1, far), -1);
         }
