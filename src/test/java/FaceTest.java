@@ -32,6 +32,7 @@ public final class FaceTest {
         members();
         inside();
         source();
+        shortMethods();
         Check.close("FaceTest");
     }
 
@@ -119,5 +120,23 @@ public final class FaceTest {
                 Check.due("byte " + i + " of the source", text.charAt(i), '?');
             }
         }
+    }
+
+    /** Rule 11: some sixty lines a method. One begins with its head's bracket and ends with a bracket as far in. */
+    private static void shortMethods() throws IOException {
+        List<String> lines = Files.readAllLines(Path.of("src/main/java/PanSlices.java"));
+        int methods = 0;
+        for (int from = 0; from < lines.size(); from++) {
+            if (lines.get(from).matches(" {4}( {4})?[A-Za-z].*\\) (throws \\w+ )?\\{")) {
+                String end = lines.get(from).replaceAll("\\S.*", "}");
+                int behind = from;
+                while (behind < lines.size() && !lines.get(behind).equals(end)) {
+                    behind++;
+                }
+                methods++;
+                Check.due("lines of " + lines.get(from).trim() + " are few", behind - from < 60, true);
+            }
+        }
+        Check.due("methods are found", methods > 100, true);
     }
 }
