@@ -30,6 +30,7 @@ public final class EdgeSumTest {
         brownOfAllSides();
         rangesOfMornings();
         morningsWrap();
+        settingsNotNamed();
         Check.close("EdgeSumTest");
     }
 
@@ -548,6 +549,34 @@ public final class EdgeSumTest {
             ways = next;
         }
         return ways[target];
+    }
+
+    // ---- what is not named counts nothing ----
+
+    /** The sentences of SLICES alike, HOTEL, MEAN and MORNING name no 'rest' and no 'once'; those alike no 'pan' either. */
+    private static void settingsNotNamed() {
+        PanSlices plain = Check.with("burn 1 3;slice a 3 2;slice b 1 4;slice c 2 2;sort 3 5;sort 1 2;");
+        PanSlices told = Check.with("burn 1 3;rest 9;slice a 3 2 once;slice b 1 4 once;slice c 2 2 once;sort 3 5;sort 1 2;");
+        PanSlices wide = Check.with("burn 1 3;rest 9;pan 4;slice a 3 2 once;slice b 1 4;slice c 2 2;sort 3 5;sort 1 2;");
+        for (int all = 1; all <= 30; all++) {
+            for (int minutes = 1; minutes <= 5; minutes++) {
+                int fewest = plain.fewest(4, minutes, all);
+                int hotel = plain.hotel(4, minutes, all);
+                Check.due("fewest with rest", told.fewest(4, minutes, all), fewest);
+                Check.due("fewest with a wide pan", wide.fewest(4, minutes, all), fewest);
+                Check.due("hotel with rest", told.hotel(4, minutes, all), hotel);
+                Check.due("hotel with a wide pan", wide.hotel(4, minutes, all), hotel);
+            }
+            Check.due("alike with rest", told.alike(all, 3), plain.alike(all, 3));
+            Check.due("alikeAt with rest", told.alikeAt(4, 3, all - 1, 1), plain.alikeAt(4, 3, all - 1, 1));
+            Check.due("morning with rest", told.morning(all), plain.morning(all));
+        }
+        Check.due("one SLICE, a side right behind the other", told.fewest(1, 1, 2), 1);
+        Check.due("its pan", told.hotel(1, 1, 2), 2);
+        for (int s = 0; s < 3; s++) {
+            Check.due("mean above with rest", told.mean(s, 0), plain.mean(s, 0));
+            Check.due("mean below with rest", told.mean(s, 1), plain.mean(s, 1));
+        }
     }
 
     // ---- MORNINGS ----
